@@ -23,8 +23,8 @@ public final class FaceTest {
     };
     private static final String[] FORBIDDEN = {
         "\\bthrow\\b", "\\bthrows\\b", "\\btry\\b", "\\bcatch\\b", "\\bsynchronized\\b",
-        "\\bassert\\b", "->", "::", "@", "\\bpackage\\b", "\\w+Exact\\b", "\\bjava\\.(?!util\\.Arrays;)",
-        "\\bThread\\b", "\\bRandom\\b", "\\bObject\\b", "\\bhashCode\\b", "\\btoString\\b",
+        "\\bassert\\b", "->", "::", "@", "\\bpackage\\b", "\\w+Exact\\b",
+        "\\bjava\\.(?!util\\.Arrays;)", "\\bThread\\b", "\\bRandom\\b", "\\bObject\\b", "\\bhashCode\\b", "\\btoString\\b",
     };
     private static int wrong = 0;
 

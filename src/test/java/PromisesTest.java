@@ -417,6 +417,11 @@ public final class PromisesTest {
         due("vector", x.cut(4, 0), BAD);
         due("vector", x.cut(-1, 0), BAD);
         due("cut", x.cut(0, 2), 31);
+        due("zeros behind the end", x.block(0, 0, 3), 3);
+        x.add(1, 1, 40);
+        due("zeros behind the end", x.join(0, 0, 1, 1), 2);
+        x.undo();
+        x.undo();
         x.add(0, 0, 38);
         due("what was cut off is gone", x.ones(0), 2);
         due("all", x.cut(0, 0), 40);
@@ -493,6 +498,9 @@ public final class PromisesTest {
         int acts = x.count(4);
         due("n 481", x.take(0, 481, 0, 1), BAD);
         due("many 41", x.take(0, 480, 0, 41), BAD);
+        due("many 40", x.take(0, 480, 0, 40), PLACE);
+        x.row(3, 2, 40);
+        due("40", x.take(3, 1, 3, 40), 1);
         due("vector", x.take(4, 1, 0, 0), BAD);
         due("vector", x.take(-1, 1, 0, 0), BAD);
         due("row", x.take(0, 1, 8, 0), BAD);
@@ -507,7 +515,7 @@ public final class PromisesTest {
         x.set(0, 1, -1);
         due("an item below 0", x.take(0, 480, 0, 4), PLACE);
         due("behind the first many", x.take(2, 4, 0, 1), 1);
-        due("acts", x.count(4), acts + 1);
+        due("acts", x.count(4), acts + 2);
         due("what was found changed nothing", x.ones(0), 3);
         due("what was found changed nothing", x.bits(0), 480);
     }
@@ -686,10 +694,16 @@ public final class PromisesTest {
         due("k -1", x.payload(0, -1), BAD);
         due("vector", x.payload(4, 0), BAD);
         due("vector", x.payload(-1, 0), BAD);
-        feedAll(x, "a15;a15;a15;a15;a15;a15;");
-        x.load(0);
-        due("bits", x.bits(0), 90);
-        long offset = x.offset(0x5555);
+        dueSixAlike(x, "a15;a15;a15;a15;a15;a15;", x.offset(0x5555));
+        dueSixAlike(x, "z7;o8;z7;o8;z7;o8;z7;o8;z7;o8;z7;o8;", 6434);
+        x.turn(0);
+        due("the other way", x.payload(0, 0), 0);
+    }
+
+    /** Six like blocks of 13 bits: of the fifth just the last bit lies in the second word. */
+    private static void dueSixAlike(ClassBits x, String text, long offset) {
+        feedAll(x, text);
+        due("bits", x.load(0), 90);
         long first = 0;
         for (int i = 0; i < 5; i++) {
             first |= offset << 13 * i;
@@ -825,6 +839,12 @@ public final class PromisesTest {
         due("six", x.stretches(0), 6);
         due("one", x.stretches(1), 1);
         due("none", x.stretches(2), 0);
+        x.add(3, 0, 1);
+        due("a zero", x.stretches(3), 1);
+        x.add(3, 1, 2);
+        due("two", x.stretches(3), 2);
+        x.add(3, 0, 2);
+        due("three", x.stretches(3), 3);
         x.add(2, 0, 480);
         due("one", x.stretches(2), 1);
         due("vector", x.stretches(4), BAD);
@@ -931,6 +951,18 @@ public final class PromisesTest {
         due("from behind it", x.tell(0, 5, 1, 0), 0);
         due("most", x.tell(0, MOST, 1, 0), 0);
         due("at its end", x.tell(0, 0, 1, 2), 0);
+        x.put(0, 0, 1);
+        x.row(3, 2, 6);
+        x.set(3, 3, 9);
+        due("not ahead of i, not beyond its end", x.tell(0, 0, 3, 4), 2);
+        x.take(1, 130, 3, 6);
+        due("ones", x.ones(1), 3);
+        due("the first", x.get(1, 0), 1);
+        due("what was there", x.get(1, 9), 1);
+        due("the second", x.get(1, 126), 1);
+        x.row(3, 2, 5);
+        x.set(3, 0, 9);
+        due("places of it alone", x.tell(0, 0, 3, 1), 4);
         due("beyond it", x.tell(0, 0, 1, 3), PLACE);
         due("below", x.tell(0, 0, 1, -1), PLACE);
         due("missing", x.tell(0, 0, 5, -1), NULL);
