@@ -695,7 +695,10 @@ public final class ClassBits {
         return CHOICES[16 * n + k];
     }
 
-    /** The numbers below a mask with as many ones part by its highest one that they lack. */
+    /**
+     * Each number below the mask, with as many ones, is like it above some one of the mask and has
+     * a zero there: its ones that are left, this one and those below, lie at lower places.
+     */
     private static int offsetOf(int mask) {
         int offset = 0;
         int ones = 0;
