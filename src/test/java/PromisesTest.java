@@ -1,57 +1,10 @@
 /** Each promise of the document by hand: ordinary inputs, the edges it names, wrong inputs. */
-public final class PromisesTest {
-    private static final int NONE = -1000000;
-    private static final int BAD = -1000001;
-    private static final int STATE = -1000002;
-    private static final int FULL = -1000003;
-    private static final int NULL = -1000011;
-    private static final int PLACE = -1000012;
-    private static final int KIND = -1000013;
-    private static final int SIZE = -1000014;
-    private static final int STORE = -1000015;
-    private static final int OVER = -1000016;
-    private static final int LEAST = Integer.MIN_VALUE;
-    private static final int MOST = Integer.MAX_VALUE;
-    private static int promise = 0;
-    private static int wrong = 0;
-
-    private static void due(String call, long got, long want) {
-        if (got != want) {
-            wrong++;
-            System.out.println("promise " + promise + ": " + call + " answered " + got
-                    + ", due is " + want);
-        }
-    }
-
-    private static void feedAll(ClassBits x, String text) {
-        for (int i = 0; i < text.length(); i++) {
-            due("feed of " + text, x.feed(text.charAt(i)), x.count(5));
-        }
-    }
-
+public final class PromisesTest extends Checks {
     private static ClassBits loaded(int vector, String text) {
         ClassBits x = new ClassBits();
         feedAll(x, text);
         x.load(vector);
         return x;
-    }
-
-    /** The bits, told as a text of 0 and 1. */
-    private static String told(ClassBits x, int vector) {
-        StringBuilder b = new StringBuilder();
-        for (int i = 0; i < x.bits(vector); i++) {
-            b.append(x.get(vector, i));
-        }
-        return b.toString();
-    }
-
-    private static void dueBits(ClassBits x, int vector, String want) {
-        String got = told(x, vector);
-        if (!got.equals(want)) {
-            wrong++;
-            System.out.println("promise " + promise + ": vector " + vector + " is " + got
-                    + ", due is " + want);
-        }
     }
 
     /** Makes a vector of a text of 0 and 1. */
@@ -108,14 +61,11 @@ public final class PromisesTest {
         promise40And41();
         promise42();
         promise43();
-        System.out.println(wrong == 0 ? "all promises hold" : wrong + " answers are wrong");
-        if (wrong != 0) {
-            System.exit(1);
-        }
+        end();
     }
 
     private static void promise1() {
-        promise = 1;
+        sentence("promise 1");
         ClassBits x = new ClassBits();
         for (int what = 0; what < 6; what++) {
             due("count", x.count(what), 0);
@@ -140,7 +90,7 @@ public final class PromisesTest {
     }
 
     private static void promise2() {
-        promise = 2;
+        sentence("promise 2");
         ClassBits x = new ClassBits();
         due("least", x.row(0, 0, 0), 0);
         due("most", x.row(7, 2, 40), 40);
@@ -164,7 +114,7 @@ public final class PromisesTest {
     }
 
     private static void promise3() {
-        promise = 3;
+        sentence("promise 3");
         ClassBits x = new ClassBits();
         x.row(0, 0, 2);
         x.row(1, 1, 2);
@@ -186,7 +136,7 @@ public final class PromisesTest {
     }
 
     private static void promise4() {
-        promise = 4;
+        sentence("promise 4");
         ClassBits x = new ClassBits();
         x.row(0, 2, 5);
         for (int i = 0; i < 5; i++) {
@@ -225,7 +175,7 @@ public final class PromisesTest {
     }
 
     private static void promise5() {
-        promise = 5;
+        sentence("promise 5");
         ClassBits x = new ClassBits();
         x.row(3, 1, 17);
         due("there", x.drop(3), 17);
@@ -237,7 +187,7 @@ public final class PromisesTest {
     }
 
     private static void promise6() {
-        promise = 6;
+        sentence("promise 6");
         ClassBits x = new ClassBits();
         due("-1", x.feed(-1), BAD);
         due("256", x.feed(256), BAD);
@@ -252,7 +202,7 @@ public final class PromisesTest {
     }
 
     private static void promise7() {
-        promise = 7;
+        sentence("promise 7");
         ClassBits x = loaded(1, "z2;o3;t7;a5;b9;");
         dueBits(x, 1, "00" + "111" + "1001001" + "10101" + "111100001");
         due("runs", x.count(1), 5);
@@ -341,7 +291,7 @@ public final class PromisesTest {
     }
 
     private static void promise8() {
-        promise = 8;
+        sentence("promise 8");
         ClassBits x = new ClassBits();
         due("before one", x.fault(), 0);
         feedAll(x, "z0;");
@@ -357,7 +307,7 @@ public final class PromisesTest {
     }
 
     private static void promise9() {
-        promise = 9;
+        sentence("promise 9");
         ClassBits x = made("0100000000000001", "1");
         due("it was", x.put(0, 0, 1), 0);
         due("it was", x.put(0, 1, 0), 1);
@@ -380,7 +330,7 @@ public final class PromisesTest {
     }
 
     private static void promise10() {
-        promise = 10;
+        sentence("promise 10");
         ClassBits x = new ClassBits();
         due("add", x.add(0, 1, 16), 16);
         due("add", x.add(0, 0, 1), 17);
@@ -406,7 +356,7 @@ public final class PromisesTest {
     }
 
     private static void promise11() {
-        promise = 11;
+        sentence("promise 11");
         ClassBits x = new ClassBits();
         x.add(0, 1, 40);
         due("as many", x.cut(0, 40), 40);
@@ -431,7 +381,7 @@ public final class PromisesTest {
     }
 
     private static void promise12() {
-        promise = 12;
+        sentence("promise 12");
         ClassBits x = made("110000000000000000011", "101");
         String[] due = {
             "100000000000000000000", "111000000000000000011",
@@ -464,7 +414,7 @@ public final class PromisesTest {
     }
 
     private static void promise13() {
-        promise = 13;
+        sentence("promise 13");
         ClassBits x = made("10100000000000001", "");
         due("turn", x.turn(0), 14);
         dueBits(x, 0, "01011111111111110");
@@ -479,7 +429,7 @@ public final class PromisesTest {
     }
 
     private static void promise14() {
-        promise = 14;
+        sentence("promise 14");
         ClassBits x = new ClassBits();
         x.row(0, 2, 4);
         x.set(0, 0, 3);
@@ -521,7 +471,7 @@ public final class PromisesTest {
     }
 
     private static void promise15() {
-        promise = 15;
+        sentence("promise 15");
         ClassBits x = new ClassBits();
         due("none", x.undo(), STATE);
         feedAll(x, "o4;");
@@ -579,12 +529,12 @@ public final class PromisesTest {
 
     private static void promise16To18() {
         ClassBits x = made("0110000000000001", "");
-        promise = 16;
+        sentence("promise 16");
         due("bits", x.bits(0), 16);
         due("bits", x.bits(1), 0);
         due("vector", x.bits(4), BAD);
         due("vector", x.bits(-1), BAD);
-        promise = 17;
+        sentence("promise 17");
         due("get", x.get(0, 0), 0);
         due("get", x.get(0, 1), 1);
         due("get", x.get(0, 15), 1);
@@ -593,7 +543,7 @@ public final class PromisesTest {
         due("place", x.get(1, 0), BAD);
         due("vector", x.get(4, 0), BAD);
         due("vector", x.get(-1, 0), BAD);
-        promise = 18;
+        sentence("promise 18");
         due("ones", x.ones(0), 3);
         due("ones", x.ones(1), 0);
         due("vector", x.ones(4), BAD);
@@ -601,7 +551,7 @@ public final class PromisesTest {
     }
 
     private static void promise19() {
-        promise = 19;
+        sentence("promise 19");
         ClassBits x = made("010100000000000" + "111111111111111" + "0100", "");
         int[][] due = {{2, 4, 7, 10, 0}, {15, 0, 0, 32767, 7}, {1, 1, 4, 2, 7}};
         for (int block = 0; block < 3; block++) {
@@ -632,7 +582,7 @@ public final class PromisesTest {
     }
 
     private static void promise20() {
-        promise = 20;
+        sentence("promise 20");
         ClassBits x = new ClassBits();
         due("none", x.entry(0, 0, 0), BAD);
         x.add(0, 1, 1);
@@ -663,7 +613,7 @@ public final class PromisesTest {
     }
 
     private static void promise21() {
-        promise = 21;
+        sentence("promise 21");
         ClassBits x = new ClassBits();
         dueSizes(x, 0, 0, 0, 0);
         x.add(0, 1, 1);
@@ -685,7 +635,7 @@ public final class PromisesTest {
     }
 
     private static void promise22() {
-        promise = 22;
+        sentence("promise 22");
         ClassBits x = made("000000000000001" + "110000000000000" + "001000000000000", "");
         due("14, 0, 2", x.payload(0, 0), 14 + (2L << 11));
         due("behind its end", x.payload(0, 1), 0);
@@ -713,7 +663,7 @@ public final class PromisesTest {
     }
 
     private static void promise23() {
-        promise = 23;
+        sentence("promise 23");
         ClassBits x = new ClassBits();
         int[] row = new int[16];
         row[0] = 1;
@@ -742,17 +692,17 @@ public final class PromisesTest {
                 x = new ClassBits();
             }
             int sort = Integer.bitCount(mask);
-            promise = 24;
+            sentence("promise 24");
             due("offset " + mask, x.offset(mask), seen[sort]);
-            promise = 25;
+            sentence("promise 25");
             due("mask of " + mask, x.mask(sort, seen[sort]), mask);
             seen[sort]++;
         }
-        promise = 24;
+        sentence("promise 24");
         x = new ClassBits();
         due("-1", x.offset(-1), BAD);
         due("32768", x.offset(32768), BAD);
-        promise = 25;
+        sentence("promise 25");
         for (int sort = 0; sort <= 15; sort++) {
             due("beyond " + sort, x.mask(sort, seen[sort]), BAD);
             due("below 0", x.mask(sort, -1), BAD);
@@ -762,7 +712,7 @@ public final class PromisesTest {
     }
 
     private static void promise26() {
-        promise = 26;
+        sentence("promise 26");
         ClassBits x = new ClassBits();
         x.add(0, 1, 16);
         x.add(0, 0, 10);
@@ -784,7 +734,7 @@ public final class PromisesTest {
     }
 
     private static void promise27() {
-        promise = 27;
+        sentence("promise 27");
         ClassBits x = made("0010110000000000001", "");
         int[] ones = {2, 4, 5, 18, NONE};
         for (int k = 0; k < 5; k++) {
@@ -803,7 +753,7 @@ public final class PromisesTest {
     }
 
     private static void promise28And29() {
-        promise = 28;
+        sentence("promise 28");
         ClassBits x = made("0010110000000000", "");
         due("it, too", x.next(0, 2, 1), 2);
         due("behind it", x.next(0, 3, 1), 4);
@@ -817,7 +767,7 @@ public final class PromisesTest {
         due("value", x.next(0, 0, -1), BAD);
         due("vector", x.next(4, 0, 0), BAD);
         due("vector", x.next(-1, 0, 0), BAD);
-        promise = 29;
+        sentence("promise 29");
         due("not it", x.last(0, 2, 1), NONE);
         due("ahead", x.last(0, 3, 1), 2);
         due("the end", x.last(0, 16, 1), 5);
@@ -834,7 +784,7 @@ public final class PromisesTest {
     }
 
     private static void promise30() {
-        promise = 30;
+        sentence("promise 30");
         ClassBits x = made("0010110000000000001", "1");
         due("six", x.stretches(0), 6);
         due("one", x.stretches(1), 1);
@@ -852,7 +802,7 @@ public final class PromisesTest {
     }
 
     private static void promise31() {
-        promise = 31;
+        sentence("promise 31");
         ClassBits x = made("011010000110001", "111");
         due("ones", x.longest(0, 1, 0), 2);
         due("of several the first", x.longest(0, 1, 1), 1);
@@ -873,7 +823,7 @@ public final class PromisesTest {
     }
 
     private static void promise32() {
-        promise = 32;
+        sentence("promise 32");
         ClassBits x = made("11110000000000000000011", "1100");
         due("2 by 6", x.alike(0, 1, 0), 1);
         due("2 by 6", x.alike(0, 1, 1), 3);
@@ -903,7 +853,7 @@ public final class PromisesTest {
     }
 
     private static void promise33() {
-        promise = 33;
+        sentence("promise 33");
         ClassBits x = made("1101", "01");
         due("1 + 2 + 4", x.weight(0, 1), 7);
         due("-3", x.weight(0, -3), -21);
@@ -926,7 +876,7 @@ public final class PromisesTest {
     }
 
     private static void promise34() {
-        promise = 34;
+        sentence("promise 34");
         ClassBits x = new ClassBits();
         x.add(0, 0, 126);
         x.add(0, 1, 4);
@@ -974,7 +924,7 @@ public final class PromisesTest {
     }
 
     private static void promise35() {
-        promise = 35;
+        sentence("promise 35");
         ClassBits x = new ClassBits();
         x.add(0, 0, 100);
         due("0 times", x.drawn(0, 0, 1, 0), 0);
@@ -1002,13 +952,13 @@ public final class PromisesTest {
     }
 
     private static void promise36And37() {
-        promise = 36;
+        sentence("promise 36");
         ClassBits x = made("1101", "01");
         due("image", x.image(1), 4);
         due("-1", x.image(-1), BAD);
         due("2", x.image(2), BAD);
         due("acts stay", x.count(4), 8);
-        promise = 37;
+        sentence("promise 37");
         due("none was kept", x.restore(0), STATE);
         due("-1", x.restore(-1), BAD);
         due("2", x.restore(2), BAD);
@@ -1036,7 +986,7 @@ public final class PromisesTest {
     private static final String FIVE = "z10;o20;t31;a7;b40;";
 
     private static void promise38() {
-        promise = 38;
+        sentence("promise 38");
         ClassBits x = loaded(0, FIVE);
         for (int run = 0; run < 5; run++) {
             due("kind " + run, x.kind(run), run + 1);
@@ -1055,7 +1005,7 @@ public final class PromisesTest {
     }
 
     private static void promise39() {
-        promise = 39;
+        sentence("promise 39");
         ClassBits x = loaded(0, FIVE);
         String[] kinds = {"01", "012", "013", "04", "045"};
         for (int run = 0; run < 5; run++) {
@@ -1072,9 +1022,9 @@ public final class PromisesTest {
     }
 
     private static void dueAsk(ClassBits x, int run, int what, int answer, int... bodies) {
-        promise = 40;
+        sentence("promise 40");
         due("ask " + run + " " + what, x.ask(run, what), answer);
-        promise = 41;
+        sentence("promise 41");
         for (int i = 0; i < bodies.length; i++) {
             due("trace of " + run + " " + what + " " + i, x.trace(i), bodies[i]);
         }
@@ -1094,12 +1044,12 @@ public final class PromisesTest {
         dueAsk(x, 3, 1, 3 - (7 - 100), 23, 20, 13, 10);
         dueAsk(x, 4, 0, 2 * (40 - 100), 14, 13, 10);
         dueAsk(x, 4, 1, 4 + 120, 23, 20, 14, 13, 10);
-        promise = 40;
+        sentence("promise 40");
         due("run 5", x.ask(5, 0), BAD);
         due("run -1", x.ask(-1, 0), BAD);
         due("what", x.ask(0, 2), BAD);
         due("what", x.ask(0, -1), BAD);
-        promise = 41;
+        sentence("promise 41");
         due("what is refused leaves it", x.trace(4), 10);
         due("-1", x.trace(-1), NONE);
         due("16", x.trace(16), NONE);
@@ -1108,7 +1058,7 @@ public final class PromisesTest {
     }
 
     private static void promise42() {
-        promise = 42;
+        sentence("promise 42");
         ClassBits x = loaded(0, "o3;z4;");
         x.row(0, 0, 0);
         x.row(7, 1, 3);
@@ -1126,7 +1076,7 @@ public final class PromisesTest {
     }
 
     private static void promise43() {
-        promise = 43;
+        sentence("promise 43");
         ClassBits x = loaded(0, "o3;z4;");
         x.row(0, 2, -1);
         due("row", x.status(), 4);
