@@ -457,11 +457,31 @@ public final class EdgesTest extends Checks {
             }
             due("one more of " + n, x.block(1, blocks, 3), BAD);
             due("block -1 of " + n, x.block(1, -1, 3), BAD);
-            x.turn(1);
-            due("turned", x.count(3), 0);
-            x.turn(1);
-            due("turned again", x.ones(1), n);
             due("its plain size", x.size(1, 4), 15 * blocks);
+        }
+        zerosBehindTheEnd();
+    }
+
+    /** Each act that could leave ones there, on 480 ones or zeros. */
+    private static void zerosBehindTheEnd() {
+        for (int n = 1; n <= 31; n++) {
+            ClassBits x = new ClassBits();
+            int last = (n - 1) / 15;
+            int there = (1 << n - 15 * last) - 1;
+            x.add(0, 1, 480);
+            x.add(1, 0, n);
+            x.turn(1);
+            due("turned " + n, x.block(1, last, 3), there);
+            x.cut(0, n);
+            due("cut to " + n, x.block(0, last, 3), there);
+            x.undo();
+            x.undo();
+            due("undone", x.block(1, last, 3), 0);
+            x.join(3, 0, 1, 0);
+            x.cut(0, n);
+            due("joined and cut to " + n, x.block(0, last, 3), there);
+            x.add(0, 0, 480 - n);
+            due("zeros behind " + n, x.ones(0), n);
         }
     }
 
@@ -495,11 +515,36 @@ public final class EdgesTest extends Checks {
             due("one less", x.mask(sort, -1), BAD);
             due("choose()", x.choose(15, sort), many[sort]);
         }
+        everyMask();
+        masksWithSomeOnes();
+    }
+
+    private static void everyMask() {
+        int[] seen = new int[16];
         ClassBits x = new ClassBits();
-        due("choose 0 of 0", x.choose(0, 0), 1);
-        due("choose 1 of 0", x.choose(0, 1), 0);
-        due("choose 15 of 14", x.choose(14, 15), 0);
-        due("choose 15 of 15", x.choose(15, 15), 1);
+        for (int mask = 0; mask <= 32767; mask++) {
+            if (mask % 256 == 0) {
+                x = new ClassBits();
+            }
+            int sort = Integer.bitCount(mask);
+            due("offset of " + mask, x.offset(mask), seen[sort]);
+            due("mask " + mask, x.mask(sort, seen[sort]), mask);
+            seen[sort]++;
+        }
+    }
+
+    private static void masksWithSomeOnes() {
+        sentence("choose: How many MASKS have k ones of n (0, if k is above n)");
+        for (int n = 0; n <= 15; n++) {
+            int[] many = new int[16];
+            for (int mask = 0; mask < 1 << n; mask++) {
+                many[Integer.bitCount(mask)]++;
+            }
+            ClassBits x = new ClassBits();
+            for (int k = 0; k <= 15; k++) {
+                due("choose " + k + " of " + n, x.choose(n, k), many[k]);
+            }
+        }
     }
 
     private static void widthsOfClasses() {
@@ -540,38 +585,43 @@ public final class EdgesTest extends Checks {
         }
         due("no bits, 7", x.payload(0, 7), BAD);
         due("no bits, -1", x.payload(0, -1), BAD);
-        addAll(x, 0, ("0".repeat(14) + "1").repeat(16));
-        due("sixteen of 14", x.payload(0, 0), 0xEEEEEEEEEEEEEEEEL);
-        due("just full", x.payload(0, 1), 0);
-        x = new ClassBits();
-        read(x, 0, "z7;o8;".repeat(4));
-        read(x, 1, "z7;o8;".repeat(4));
-        x.join(1, 0, 1, 1);
-        x.turn(1);
-        due("one bits behind the end are none", x.payload(1, 0), 0);
-        fullPayload();
+        for (int fours = 0; fours <= 17; fours++) {
+            for (int sevens = 0; sevens <= 3; sevens++) {
+                for (int thirteens = 0; thirteens <= 2; thirteens++) {
+                    duePayload(fours, sevens, thirteens);
+                }
+            }
+        }
+        duePayload(1, 0, 31);
+        duePayload(0, 0, 32);
     }
 
-    /** 32 blocks of 13 bits: six words and half of one. */
-    private static void fullPayload() {
+    /** So many blocks of WIDTH 4, 7, 13, each with the greatest OFFSET: every place in a word. */
+    private static void duePayload(int fours, int sevens, int thirteens) {
         ClassBits x = new ClassBits();
-        for (int i = 0; i < 32; i++) {
-            x.add(0, 0, 7);
-            x.add(0, 1, 8);
-        }
         boolean[] bits = new boolean[448];
-        for (int i = 0; i < 416; i++) {
-            bits[i] = (6434 >> i % 13 & 1) == 1;
+        int begin = 0;
+        for (int b = 0; b < fours + sevens + thirteens; b++) {
+            int ones = b < fours ? 1 : b < fours + sevens ? 2 : 8;
+            int width = ones == 1 ? 4 : ones == 2 ? 7 : 13;
+            int offset = ones == 1 ? 14 : ones == 2 ? 104 : 6434;
+            x.add(0, 0, 15 - ones);
+            x.add(0, 1, ones);
+            due("begin of " + b, x.block(0, b, 4), begin);
+            for (int i = 0; i < width; i++) {
+                bits[begin + i] = (offset >> i & 1) == 1;
+            }
+            begin += width;
         }
+        String blocks = fours + " of 4, " + sevens + " of 7, " + thirteens + " of 13";
         for (int k = 0; k <= 6; k++) {
             long word = 0;
             for (int i = 0; i < 64; i++) {
                 word |= bits[64 * k + i] ? 1L << i : 0;
             }
-            due("full, word " + k, x.payload(0, k), word);
+            due("word " + k + " of " + blocks, x.payload(0, k), word);
         }
-        due("its bits", x.size(0, 0), 416);
-        due("begin of the last", x.block(0, 31, 4), 403);
+        due("size of " + blocks, x.size(0, 0), begin);
     }
 
     private static void fourthBlocks() {
