@@ -4,6 +4,7 @@
  */
 public final class EdgesTest extends Checks {
     public static void main(String[] args) {
+        lastOfItsCalls();
         numbersGoFromZero();
         firstRefusalThatFits();
         findingsAreNumbered();
@@ -65,6 +66,29 @@ public final class EdgesTest extends Checks {
         restoreForgetsActs();
         counts();
         end();
+    }
+
+    // ---- What it is
+
+    private static void lastOfItsCalls() {
+        sentence("An object is used for at most 512 calls after it has been made");
+        ClassBits x = new ClassBits();
+        for (int i = 1; i <= 500; i++) {
+            due("turn, call " + i, x.turn(3), 0);
+        }
+        for (int left = 11; left >= 0; left--) {
+            due("undo, call " + (512 - left), x.undo(), left);
+        }
+        x = new ClassBits();
+        for (int i = 1; i <= 128; i++) {
+            feedAll(x, "a9;");
+            due("load, call " + 4 * i, x.load(i % 4), 9);
+        }
+        x = new ClassBits();
+        for (int i = 1; i <= 256; i++) {
+            due("row, call " + (2 * i - 1), x.row(i % 8, i % 3, 40), 40);
+            due("set, call " + 2 * i, x.set(i % 8, 39, i % 128), i % 128);
+        }
     }
 
     // ---- Terms, the opening
