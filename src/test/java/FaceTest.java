@@ -1,9 +1,12 @@
+import java.lang.reflect.Array;
 import java.lang.reflect.Constructor;
 import java.lang.reflect.Field;
 import java.lang.reflect.Method;
 import java.lang.reflect.Modifier;
 import java.nio.file.Files;
 import java.nio.file.Path;
+import java.util.Collections;
+import java.util.IdentityHashMap;
 import java.util.Set;
 import java.util.TreeSet;
 import java.util.regex.Matcher;
@@ -24,8 +27,18 @@ public final class FaceTest {
     private static final String[] FORBIDDEN = {
         "\\bthrow\\b", "\\bthrows\\b", "\\btry\\b", "\\bcatch\\b", "\\bsynchronized\\b",
         "\\bassert\\b", "->", "::", "@", "\\bpackage\\b", "\\w+Exact\\b",
-        "\\bjava\\.(?!util\\.Arrays;)", "\\bThread\\b", "\\bRandom\\b", "\\bObject\\b", "\\bhashCode\\b", "\\btoString\\b",
+        "\\bjava\\.(?!util\\.Arrays;)", "\\bThread\\b", "\\bRandom\\b", "\\bObject\\b",
+        "\\bhashCode\\b", "\\btoString\\b",
     };
+    private static final Set<String> LIBRARY = Set.of("Arrays.fill", "System.arraycopy",
+            "Math.max", "Math.min", "Integer.bitCount");
+    private static final Set<Class<?>> STATIC_TYPES = Set.of(int.class, long.class, boolean.class,
+            char.class, String.class, int[].class, long[].class, char[].class, byte[].class);
+    private static final int MOST_PARAMETERS = 7;
+    private static final int MOST_FIELDS = 20;
+    private static final int MOST_LINES = 60;
+    private static final int MOST_OBJECTS = 600000;
+    private static final int MOST_ELEMENTS = 7300000;
     private static int wrong = 0;
 
     private static void check(String what, boolean holds) {
@@ -39,6 +52,7 @@ public final class FaceTest {
         checkMembers();
         checkNested();
         checkSource(Files.readString(Path.of("src/main/java/ClassBits.java")));
+        checkRoom();
         if (wrong != 0) {
             System.exit(1);
         }
@@ -79,8 +93,6 @@ public final class FaceTest {
             if (!Modifier.isPrivate(f.getModifiers())) {
                 open.add(f.getName() + " " + f.getInt(null));
             }
-            check(f + " is static, so final", !Modifier.isStatic(f.getModifiers())
-                    || Modifier.isFinal(f.getModifiers()));
         }
         Set<String> due = Set.of("NONE -1000000", "BAD -1000001", "STATE -1000002",
                 "FULL -1000003");
@@ -89,11 +101,30 @@ public final class FaceTest {
 
     private static void checkNested() {
         Class<?>[] nested = ClassBits.class.getDeclaredClasses();
+        checkMeasures(ClassBits.class);
         check("at most twelve classes", nested.length + 1 <= 12);
         for (Class<?> c : nested) {
             check(c + " is static and not public", Modifier.isStatic(c.getModifiers())
                     && !Modifier.isPublic(c.getModifiers())
                     && !Modifier.isProtected(c.getModifiers()));
+            check(c + " has no class inside", c.getDeclaredClasses().length == 0);
+            checkMeasures(c);
+        }
+    }
+
+    private static void checkMeasures(Class<?> type) {
+        int fields = 0;
+        for (Field f : type.getDeclaredFields()) {
+            if (Modifier.isStatic(f.getModifiers())) {
+                check(f + " is static, so final", Modifier.isFinal(f.getModifiers()));
+                check(f + " is static, so a constant", STATIC_TYPES.contains(f.getType()));
+            } else {
+                fields++;
+            }
+        }
+        check(type + " has " + fields + " fields", fields <= MOST_FIELDS);
+        for (Method m : type.getDeclaredMethods()) {
+            check(m + " has few parameters", m.getParameterCount() <= MOST_PARAMETERS);
         }
     }
 
@@ -103,8 +134,66 @@ public final class FaceTest {
             Matcher m = Pattern.compile(word).matcher(code);
             check("the source has " + word, !m.find());
         }
+        Matcher used = Pattern.compile("\\b(Arrays|System|Math|Integer|Long|String|StringBuilder"
+                + "|List|ArrayList)\\b(\\.\\w+)?").matcher(code.replaceAll("(?m)^import .*$", ""));
+        while (used.find()) {
+            check("the source uses " + used.group(), LIBRARY.contains(used.group()));
+        }
+        checkLengths(text.split("\n"));
         for (int i = 0; i < text.length(); i++) {
             check("a sign beyond 127 at " + i, text.charAt(i) < 128);
+        }
+    }
+
+    /** A method begins with a line that ends in a bracket, and ends where its indent is back. */
+    private static void checkLengths(String[] lines) {
+        Pattern begin = Pattern.compile("^( {4}| {8})(?!if|for|while|switch|\\})\\w.*\\) \\{$");
+        for (int i = 0; i < lines.length; i++) {
+            Matcher m = begin.matcher(lines[i]);
+            if (m.matches()) {
+                int end = i;
+                while (end < lines.length && !lines[end].equals(m.group(1) + "}")) {
+                    end++;
+                }
+                check(lines[i].trim() + " has few lines", end - i < MOST_LINES);
+            }
+        }
+    }
+
+    /**
+     * All calls of a run live in one room. What a new object holds, and what it makes by texts (the
+     * only calls that make objects: a run takes three bytes at least), must leave room for some
+     * thousand objects, each with all its 512 calls.
+     */
+    private static void checkRoom() throws Exception {
+        int[] room = new int[2];
+        measure(new ClassBits(), room, Collections.newSetFromMap(new IdentityHashMap<>()));
+        int runsMade = 512 / 3;
+        int fieldsOfARun = 2;
+        check("objects: " + room[0], (room[0] + runsMade) * 1000 < MOST_OBJECTS);
+        check("elements: " + room[1], (room[1] + runsMade * fieldsOfARun) * 1000 < MOST_ELEMENTS);
+    }
+
+    private static void measure(Object held, int[] room, Set<Object> seen) throws Exception {
+        if (held == null || !seen.add(held)) {
+            return;
+        }
+        room[0]++;
+        if (held.getClass().isArray()) {
+            room[1] += Array.getLength(held);
+            for (int i = 0; i < Array.getLength(held) && held instanceof Object[]; i++) {
+                measure(Array.get(held, i), room, seen);
+            }
+            return;
+        }
+        for (Field f : held.getClass().getDeclaredFields()) {
+            if (!Modifier.isStatic(f.getModifiers())) {
+                room[1]++;
+                f.setAccessible(true);
+                if (!f.getType().isPrimitive()) {
+                    measure(f.get(held), room, seen);
+                }
+            }
         }
     }
 }
